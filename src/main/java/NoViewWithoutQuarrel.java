@@ -208,7 +208,8 @@ public final class NoViewWithoutQuarrel {
             case 3:
                 return furthestPair();
             case 4:
-                return wordsToAllThings();
+                int mile = now.furthestMileWithThing(MILES);
+                return mile == NONE ? 0 : nearest(mile, 1);
             default:
                 return BAD;
         }
@@ -253,15 +254,10 @@ public final class NoViewWithoutQuarrel {
     private int furthestReached() {
         int most = 0;
         for (int pair = 0; pair < now.size; pair++) {
-            spread(pair);
+            reach.spread(temper, now, pair);
             most = Math.max(most, reach.furthest(temper));
         }
         return most;
-    }
-
-    private int wordsToAllThings() {
-        int mile = now.furthestMileWithThing(MILES);
-        return mile == NONE ? 0 : nearest(mile, 1);
     }
 
     // ---- what words can do
@@ -270,7 +266,7 @@ public final class NoViewWithoutQuarrel {
         if (!now.has(pair) || !within(k, MILES + 1) || !within(what, 2)) {
             return BAD;
         }
-        spread(pair);
+        reach.spread(temper, now, pair);
         int goal = reach.first(temper, k);
         return what == 0 ? reach.wordsTo(goal) : reach.rowTo(goal);
     }
@@ -279,7 +275,7 @@ public final class NoViewWithoutQuarrel {
         if (!now.has(pair) || !within(what, 6)) {
             return BAD;
         }
-        spread(pair);
+        reach.spread(temper, now, pair);
         switch (what) {
             case 0:
                 return reach.wordsTo(0);
@@ -328,7 +324,7 @@ public final class NoViewWithoutQuarrel {
         if (!now.has(pair) || !within(k, MILES + 1) || !within(n, MOST_ROW + 1) || !within(part, 2)) {
             return NO;
         }
-        spread(pair);
+        reach.spread(temper, now, pair);
         long all = 1;
         for (int i = 0; i < n; i++) {
             all *= WORDS;
@@ -343,18 +339,12 @@ public final class NoViewWithoutQuarrel {
         return nearest(mile, what);
     }
 
-    private void spread(int pair) {
-        temper.of(now, pair);
-        reach.spread(temper, now.angerOf(pair));
-    }
-
     /** The pair that needs fewest words to see the mile, or, with what 1, how many these are. */
     private int nearest(int mile, int what) {
         int best = NONE;
         int least = NONE;
         for (int pair = 0; pair < now.size; pair++) {
-            temper.of(now, pair);
-            reach.spread(temper, now.angerOf(pair));
+            reach.spread(temper, now, pair);
             int needed = reach.wordsTo(reach.first(temper, mile + 1));
             if (needed != NONE && (best == NONE || needed < least)) {
                 best = pair;
@@ -407,15 +397,11 @@ public final class NoViewWithoutQuarrel {
         return NONE;
     }
 
-    private boolean fits(Sheet seen, int anger) {
-        return firstOtherwise(seen, anger) == NONE;
-    }
-
     private int fittingKinds(Sheet seen, int anger) {
         int bits = 0;
         for (int kind = 0; kind < KINDS; kind++) {
             temper.kind = kind;
-            bits |= fits(seen, anger) ? 1 << kind : 0;
+            bits |= firstOtherwise(seen, anger) == NONE ? 1 << kind : 0;
         }
         return bits;
     }
@@ -424,7 +410,7 @@ public final class NoViewWithoutQuarrel {
         int bits = 0;
         for (int number = 0; number < NUMBERS; number++) {
             temper.renumber(number);
-            bits |= fits(seen, anger) ? 1 << number : 0;
+            bits |= firstOtherwise(seen, anger) == NONE ? 1 << number : 0;
         }
         return bits;
     }
@@ -432,14 +418,14 @@ public final class NoViewWithoutQuarrel {
     private int fittingAngers(Sheet seen) {
         int fitting = 0;
         for (int anger = 0; anger < ANGERS; anger++) {
-            fitting += fits(seen, anger) ? 1 : 0;
+            fitting += firstOtherwise(seen, anger) == NONE ? 1 : 0;
         }
         return fitting;
     }
 
     private int leastFittingAnger(Sheet seen) {
         for (int anger = 0; anger < ANGERS; anger++) {
-            if (fits(seen, anger)) {
+            if (firstOtherwise(seen, anger) == NONE) {
                 return anger;
             }
         }
@@ -450,7 +436,7 @@ public final class NoViewWithoutQuarrel {
         int bits = 0;
         for (int text = 0; text < texts.size; text++) {
             temper.rule = text;
-            bits |= fits(seen, anger) ? 1 << text : 0;
+            bits |= firstOtherwise(seen, anger) == NONE ? 1 << text : 0;
         }
         return bits;
     }
@@ -458,7 +444,7 @@ public final class NoViewWithoutQuarrel {
     private int fittingWords(Sheet seen, int anger) {
         int bits = 0;
         for (int word = 0; word < WORDS; word++) {
-            bits |= fits(seen, temper.heated(anger, word)) ? 1 << word : 0;
+            bits |= firstOtherwise(seen, temper.heated(anger, word)) == NONE ? 1 << word : 0;
         }
         return bits;
     }
@@ -467,7 +453,7 @@ public final class NoViewWithoutQuarrel {
         int bits = 0;
         for (int pair = 0; pair < now.size; pair++) {
             temper.of(now, pair);
-            bits |= fits(seen, now.angerOf(pair)) ? 1 << pair : 0;
+            bits |= firstOtherwise(seen, now.angerOf(pair)) == NONE ? 1 << pair : 0;
         }
         return bits;
     }
@@ -796,7 +782,7 @@ public final class NoViewWithoutQuarrel {
                     stack[top] = step >= 0 ? step : names[-1 - step];
                     top++;
                 } else if (step >= STEP_MINUS && top >= 1) {
-                    stack[top - 1] = step == STEP_NOT ? truth(stack[top - 1] == 0) : -stack[top - 1];
+                    stack[top - 1] = step == STEP_NOT ? (stack[top - 1] == 0 ? 1 : 0) : -stack[top - 1];
                 } else if (top >= 2) {
                     stack[top - 2] = joined(step, stack[top - 2], stack[top - 1]);
                     top--;
@@ -805,20 +791,16 @@ public final class NoViewWithoutQuarrel {
             return stack[0];
         }
 
-        private static int truth(boolean is) {
-            return is ? 1 : 0;
-        }
-
         private static int joined(int step, int a, int b) {
             switch (step) {
                 case STEP_OR:
-                    return truth(a != 0 || b != 0);
+                    return a != 0 || b != 0 ? 1 : 0;
                 case STEP_AND:
-                    return truth(a != 0 && b != 0);
+                    return a != 0 && b != 0 ? 1 : 0;
                 case STEP_BELOW:
-                    return truth(a < b);
+                    return a < b ? 1 : 0;
                 case STEP_LIKE:
-                    return truth(a == b);
+                    return a == b ? 1 : 0;
                 case STEP_PLUS:
                     return a + b;
                 case STEP_LESS:
@@ -1150,10 +1132,11 @@ public final class NoViewWithoutQuarrel {
         private final long[] later = new long[ANGERS];
         int size;
 
-        void spread(Temper temper, int anger) {
+        void spread(Temper temper, Scene scene, int pair) {
+            temper.of(scene, pair);
             Arrays.fill(depth, NONE);
             size = 0;
-            meet(anger, NONE, NONE);
+            meet(scene.angerOf(pair), NONE, NONE);
             for (int i = 0; i < size && i < ANGERS; i++) {
                 int at = order[i];
                 for (int word = 0; word < WORDS; word++) {
