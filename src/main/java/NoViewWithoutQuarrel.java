@@ -739,7 +739,7 @@ public final class NoViewWithoutQuarrel {
         }
     }
 
-    /** The texts, each as a row of steps for a stack: a number to lay on it, or what to do with those that lie there. */
+    /** The texts, each as a row of steps for a stack: a number to lay on it, or what to do with those that lie. */
     private static final class Texts {
         private final int[] steps = new int[TEXTS * TAPE];
         private final int[] ends = new int[TEXTS * PARTS];
@@ -1121,7 +1121,7 @@ public final class NoViewWithoutQuarrel {
         }
     }
 
-    /** The angers that words lead to from one, in the order in which the fewest words, and of these the first row, come to them. */
+    /** The angers that words lead to, ordered by the fewest words to each, and then by the first row of these. */
     private static final class Reach {
         private final int[] order = new int[ANGERS];
         private final int[] depth = new int[ANGERS];

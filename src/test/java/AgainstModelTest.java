@@ -27,6 +27,9 @@ public final class AgainstModelTest {
         for (long seed = 0; seed < 20000; seed++) {
             new AgainstModelTest(seed).runTexts();
         }
+        for (long seed = 0; seed < 120; seed++) {
+            new AgainstModelTest(seed).runSurvey();
+        }
         Check.end();
     }
 
@@ -48,6 +51,90 @@ public final class AgainstModelTest {
         Check.due("text() of <" + text + ">", x.text(), m.text());
         feed(goodText());
         Check.due("text()", x.text(), m.text());
+    }
+
+    /** Lively rules, and then everything that can be asked of every pair. */
+    private void runSurvey() {
+        for (int i = 0; i < 3; i++) {
+            feed(livelyText());
+            Check.due("text()", x.text(), m.text());
+        }
+        Check.due("force", x.force(1), m.force(1));
+        for (int i = 0; i < 4; i++) {
+            int kind = random.nextInt(6);
+            int number = random.nextInt(10);
+            int anger = random.nextInt(100);
+            Check.due("pair", x.pair(kind, number, anger), m.pair(kind, number, anger));
+            int mile = random.nextInt(40);
+            Check.due("set", x.set(1, mile, i + 1), m.set(1, mile, i + 1));
+        }
+        for (int what = 0; what < 5; what++) {
+            Check.due("view", x.view(what), m.view(what));
+            Check.due("clear", x.clear(what), m.clear(what));
+        }
+        for (int mile = 0; mile < 40; mile += 3) {
+            Check.due("whom", x.whom(mile, 0), m.whom(mile, 0));
+            Check.due("whom", x.whom(mile, 1), m.whom(mile, 1));
+        }
+        for (int pair = 0; pair < 4; pair++) {
+            surveyPair(pair);
+        }
+    }
+
+    private void surveyPair(int pair) {
+        int seed = random.nextInt();
+        for (int what = 0; what < 16; what++) {
+            Check.due("told", x.told(pair, what), m.told(pair, what));
+            Check.due("words", x.words(pair, what), m.words(pair, what));
+        }
+        for (int k = 0; k <= 40; k += 2) {
+            for (int what = 0; what < 2; what++) {
+                Check.due("fewest", x.fewest(pair, k, what), m.fewest(pair, k, what));
+                Check.due("chance", x.chance(seed, 20, pair, k, what), m.chance(seed, 20, pair, k, what));
+                for (int n = k % 5; n <= 20; n += 5) {
+                    Check.due("rows", x.rows(pair, k, n, what), m.rows(pair, k, n, what));
+                }
+            }
+            Check.due("stays", x.stays(pair, k), m.stays(pair, k));
+            Check.due("drawn", x.drawn(seed, pair, k), m.drawn(seed, pair, k));
+        }
+        surveySheets(pair);
+    }
+
+    /** What was seen behind a word, by a kind, a number, a rule that may be another, held against what is. */
+    private void surveySheets(int pair) {
+        Check.due("image", x.image(), m.image());
+        for (int change = 0; change < 6; change++) {
+            int v = random.nextInt(6);
+            int n = random.nextInt(9);
+            if (change == 1) {
+                Check.due("say", x.say(pair, v), m.say(pair, v));
+            } else if (change == 2) {
+                Check.due("set", x.set(2, pair, v), m.set(2, pair, v));
+            } else if (change == 3) {
+                Check.due("force", x.force(v), m.force(v));
+            } else if (change == 4) {
+                Check.due("set", x.set(3, pair, v * 7), m.set(3, pair, v * 7));
+            }
+            int filmed = change == 5 ? v % 4 : pair;
+            Check.due("film", x.film(v % 4, filmed, n), m.film(v % 4, filmed, n));
+            Check.due("back", x.back(), m.back());
+            for (int what = 0; what < 8; what++) {
+                Check.due("tells", x.tells(v % 4, pair, what), m.tells(v % 4, pair, what));
+            }
+        }
+    }
+
+    private String livelyText() {
+        String[] heats = {"word*#-#", "(word-2)*#+number", "word*word-#+(anger<#)*#", "(anger<50 and word<3)*#-(not word<3)*#", "word-#+things"};
+        String[] cools = {"#", "number+1", "(anger<50)*#+1", "#-hour", "things+bench"};
+        String[] far = {"anger", "anger-#", "40-anger", "anger*2-#+number", "(anger<60)*anger+(59<anger)*#", "anger*anger-#*#"};
+        String text = "heats " + heats[random.nextInt(5)] + ";cools " + cools[random.nextInt(5)] + ";far " + far[random.nextInt(6)] + ";";
+        StringBuilder all = new StringBuilder();
+        for (char c : text.toCharArray()) {
+            all.append(c == '#' ? Integer.toString(random.nextInt(random.nextBoolean() ? 6 : 30)) : Character.toString(c));
+        }
+        return all.toString();
     }
 
     /** Mostly a number below the limit, now and then one at its edge or far off. */

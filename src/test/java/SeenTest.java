@@ -56,6 +56,9 @@ public final class SeenTest {
         Check.due("quiet(99)", x.quiet(99), 4);
         Check.due("told(4, 3)", x.told(4, 3), 60);
         Check.due("count(2)", x.count(2), 0);
+        x.set(3, 4, 99);
+        x.quiet(1);
+        Check.due("told(4, 3)", x.told(4, 3), 99);
         NoViewWithoutQuarrel y = Check.ruled("heats 0;cools anger * 2 - 90;far 0;");
         y.pair(0, 0, 60);
         y.quiet(2);
@@ -109,6 +112,12 @@ public final class SeenTest {
         x.set(3, 1, 20);
         x.set(1, 38, 2);
         Check.due("view(4)", x.view(4), 1);
+        NoViewWithoutQuarrel z = new NoViewWithoutQuarrel();
+        z.set(1, 0, 6);
+        z.pair(0, 0, 0);
+        Check.due("view(4) of the nearest mile", z.view(4), 1);
+        z.say(0, 0);
+        Check.due("view(2) of the nearest mile", z.view(2), 6);
         NoViewWithoutQuarrel y = new NoViewWithoutQuarrel();
         y.pair(5, 3, 0);
         y.set(1, 11, 1);

@@ -100,6 +100,8 @@ public final class TextsTest {
         for (int word = 0; word < 6; word++) {
             Check.due("HEATS by word and number", x.told(0, 10 + word), word * 10 + 4);
         }
+        Check.due("FAR knows of no word", x.told(0, 7), 23);
+        Check.due("HEATS by word and number", x.told(0, 15), 54);
         Check.due("COOLS by hour", x.told(0, 6), 23);
         Check.due("FAR by things and bench", x.told(0, 7), 23);
         x.set(1, 6, 0);
@@ -148,6 +150,12 @@ public final class TextsTest {
         fault("heats (1 2);", 9);
         fault("heats word word;", 11);
         fault("heats wordword;", 6);
+        fault("heats 1 orz;", 8);
+        fault("heats - foo 5;cools 1;far 1;", 8);
+        fault("heats ( foo 5;cools 1;far 1;", 8);
+        fault("heats not foo 5;cools 1;far 1;", 10);
+        fault("foo heats 5;cools 1;far 1;", 0);
+        fault("heats 5;cools 1;far 1;far", 22);
         fault("heats 1 & 2;", 8);
         fault("heats " + (char) 200 + ";", 6);
         fault("heats 5a;", 7);

@@ -61,6 +61,14 @@ public final class ToldViewsTest {
         Check.fill(x, 3, 0, 40);
         Check.due("ANGERS from 40 on", x.tells(3, 0, 3), 60);
         Check.due("the least ANGER of them", x.tells(3, 0, 4), 40);
+        NoViewWithoutQuarrel y = Check.ruled("heats 0;cools 0;far (98<anger)+(99<anger);");
+        y.pair(0, 0, 0);
+        Check.fill(y, 3, 2, 1);
+        Check.due("ANGERS up to 99", y.tells(3, 0, 3), 1);
+        Check.due("the least ANGER may be the last", y.tells(3, 0, 4), 99);
+        y.cell(3, 0, 2);
+        Check.due("ANGERS end with 99", y.tells(3, 0, 3), 0);
+        Check.due("the least ANGER of none", y.tells(3, 0, 4), -1);
         x.pair(2, 3, 20);
         Check.fill(x, 3, 2, 14, 9);
         Check.due("NUMBERS of YOUNG", x.tells(3, 4, 2), 64);
@@ -197,7 +205,11 @@ public final class ToldViewsTest {
         Check.due("chance(0, 20, 0, 40, 1)", x.chance(0, 20, 0, 40, 1), 1);
         Check.due("chance(0, 20, 0, 0, 0)", x.chance(0, 20, 0, 0, 0), 1);
         Check.due("chance(0, 20, 0, 0, 1)", x.chance(0, 20, 0, 0, 1), 1);
-        int[][] wrong = {{0, 0, 0, 0}, {21, 0, 0, 0}, {-1, 0, 0, 0}, {1, 1, 0, 0}, {1, -1, 0, 0}, {1, 0, 41, 0},
+        x.pair(5, 9, 0);
+        Check.due("told(0, 7)", x.told(0, 7), 40);
+        Check.due("chance() of another pair", x.chance(0, 1, 1, 36, 0), 1);
+        Check.due("chance() of another pair", x.chance(0, 1, 1, 37, 0), 0);
+        int[][] wrong = {{0, 0, 0, 0}, {21, 0, 0, 0}, {-1, 0, 0, 0}, {1, 2, 0, 0}, {1, -1, 0, 0}, {1, 0, 41, 0},
             {1, 0, -1, 0}, {1, 0, 0, 2}, {1, 0, 0, -1}};
         for (int[] w : wrong) {
             Check.due("chance()", x.chance(9, w[0], w[1], w[2], w[3]), NO);

@@ -90,6 +90,9 @@ public final class WordsTest {
         Check.due("words(0, 5) of WED", x.words(0, 5), 28);
         Check.due("words(1, 4), the first of like ones", x.words(1, 4), 0);
         Check.due("words(1, 5)", x.words(1, 5), 40);
+        x.pair(0, 0, 0);
+        Check.due("words(2, 4), the last of all", x.words(2, 4), 5);
+        Check.due("words(2, 5)", x.words(2, 5), 20);
         NoViewWithoutQuarrel y = Check.ruled("heats word*10;cools 0;far 40-anger;");
         y.pair(0, 0, 10);
         Check.due("words(0, 4) by which least is lost", y.words(0, 4), 0);
