@@ -7,6 +7,7 @@ public final class TextsTest {
         names();
         faults();
         openOnes();
+        tapesAnew();
         forcing();
         Check.end();
     }
@@ -188,6 +189,17 @@ public final class TextsTest {
 
     private static void good(String text) {
         Check.due("text() of <" + text + ">", Check.text(new NoViewWithoutQuarrel(), text), 1);
+    }
+
+    /** What an earlier tape held behind this one's end is gone. */
+    private static void tapesAnew() {
+        NoViewWithoutQuarrel x = new NoViewWithoutQuarrel();
+        Check.due("text()", Check.text(x, "aaaaaaaaaaaaaaa"), -100);
+        Check.due("text() that ends with a word", Check.text(x, "heats"), -105);
+        Check.due("text()", Check.text(x, "9999999999999999999999999"), -100);
+        Check.due("text() that ends with a number", Check.text(x, "heats 1234"), -110);
+        Check.due("text()", Check.text(x, "heats 1;cools 2;far 3;"), 1);
+        Check.due("text() of an empty tape", x.text(), -100);
     }
 
     private static void forcing() {
