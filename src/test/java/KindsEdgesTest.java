@@ -73,7 +73,8 @@ public final class KindsEdgesTest {
         for (int kind = 1; kind <= 3; kind += 2) {
             for (int number = 0; number < 10; number++) {
                 for (int word = 0; word < 6; word++) {
-                    tells("if w is NUMBER modulo 6", pair(kind, number, 50), HEATS + word, "7", word == twice[number] ? 14 : 7);
+                    tells("if w is NUMBER modulo 6", pair(kind, number, 50), HEATS + word, "7",
+                        word == twice[number] ? 14 : 7);
                 }
             }
         }
@@ -258,24 +259,25 @@ public final class KindsEdgesTest {
     }
 
     private static void wordOfCoolsAndFar() {
-        new Run("word: the WORD (of cools, far 0)").rule("word", "word+1", "word+2")
-            .then("pair 0 9 50 = 0", "told 0 10 = 0", "told 0 15 = 5", "told 0 6 = 1", "told 0 15 = 5", "told 0 7 = 2",
-                "say 0 5 = 55", "told 0 6 = 1", "told 0 7 = 2", "stays 0 1 = 100", "stays 0 2 = 0", "quiet 1 = 0",
-                "told 0 3 = 54");
+        new Run("word: the WORD (of cools, far 0)").rule("word", "word+1", "word+2").then("pair 0 9 50 = 0",
+            "told 0 10 = 0", "told 0 15 = 5", "told 0 6 = 1", "told 0 15 = 5", "told 0 7 = 2", "say 0 5 = 55",
+            "told 0 6 = 1", "told 0 7 = 2", "stays 0 1 = 100", "stays 0 2 = 0", "quiet 1 = 0", "told 0 3 = 54");
     }
 
     private static void names() {
         new Run("anger: ANGER").rule("0", "0", "anger-59").then("pair 0 0 99 = 0", "told 0 7 = 40", "set 3 0 60 = 99",
             "told 0 7 = 1", "set 3 0 0 = 60", "told 0 7 = 0");
-        new Run("number: NUMBER").rule("number", "0", "number").then("pair 0 0 50 = 0", "pair 0 9 50 = 1", "told 0 7 = 0",
-            "told 1 7 = 9", "told 0 10 = 0", "told 1 10 = 9");
+        new Run("number: NUMBER").rule("number", "0", "number").then("pair 0 0 50 = 0", "pair 0 9 50 = 1",
+            "told 0 7 = 0", "told 1 7 = 9", "told 0 10 = 0", "told 1 10 = 9");
         new Run("hour: HOUR").rule("hour", "hour", "hour").then("pair 0 0 50 = 0", "told 0 7 = 0", "set 0 0 39 = 0",
             "told 0 7 = 39", "set 0 0 99 = 39", "told 0 10 = 99", "told 0 6 = 99", "told 0 7 = 40");
-        Run things = new Run("things: how many MILES have a THING").rule("0", "0", "things").then("pair 0 0 50 = 0", "told 0 7 = 0");
+        Run things = new Run("things: how many MILES have a THING").rule("0", "0", "things").then("pair 0 0 50 = 0",
+            "told 0 7 = 0");
         for (int mile = 0; mile < 40; mile++) {
             things.then("set 1 " + mile + " 7 = 0", "told 0 7 = " + (mile + 1));
         }
-        things.then("set 1 39 1 = 7", "told 0 7 = 40", "set 1 39 0 = 1", "told 0 7 = 39", "set 1 0 0 = 7", "told 0 7 = 38");
+        things.then("set 1 39 1 = 7", "told 0 7 = 40", "set 1 39 0 = 1", "told 0 7 = 39", "set 1 0 0 = 7",
+            "told 0 7 = 38");
         Run bench = new Run("bench: how many PAIRS there are").rule("0", "0", "bench");
         for (int pair = 0; pair < 5; pair++) {
             bench.then("pair 0 0 50 = " + pair, "told 0 7 = " + (pair + 1), "told " + pair + " 7 = " + (pair + 1));

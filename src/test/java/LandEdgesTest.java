@@ -29,11 +29,12 @@ public final class LandEdgesTest {
             things.then("told " + mile + " 1 = 0");
         }
         new Run("HOUR (0 at first)", "told 0 0 = 0");
-        new Run("TEXT 0, at first THE RULE", "count 3 = 1", "count 5 = 0", "pair 0 0 33 = 0", "told 0 10 = 5", "told 0 15 = 20",
-            "told 0 6 = 2", "told 0 7 = 33");
+        new Run("TEXT 0, at first THE RULE", "count 3 = 1", "count 5 = 0", "pair 0 0 33 = 0", "told 0 10 = 5",
+            "told 0 15 = 20", "told 0 6 = 2", "told 0 7 = 33");
         new Run("THE TAPE is empty at first", "count 4 = 0", "feed 32 = 1");
         new Run("there is no IMAGE at first", "back ! STATE");
-        new Run("SHEETS, missing (as all are at first)", "cell 0 0 0 ! -11", "cell 1 0 0 ! -11", "cell 2 0 0 ! -11", "cell 3 0 0 ! -11");
+        new Run("SHEETS, missing (as all are at first)", "cell 0 0 0 ! -11", "cell 1 0 0 ! -11", "cell 2 0 0 ! -11",
+            "cell 3 0 0 ! -11");
     }
 
     /** What one object is told, another one doesn't know. */
@@ -43,10 +44,12 @@ public final class LandEdgesTest {
     }
 
     private static void setHour() {
-        Run run = Run.lively("HOUR (0 .. 99) becomes v: what it was").then("set 0 0 0 = 8", "set 0 0 99 = 0", "told 0 0 = 99",
-            "set 0 0 100 ! BAD", "set 0 0 -1 ! BAD", "set 0 0 MAX ! BAD", "set 0 0 MIN ! BAD", "told 0 0 = 99", "set 0 0 99 = 99");
+        Run run = Run.lively("HOUR (0 .. 99) becomes v: what it was").then("set 0 0 0 = 8", "set 0 0 99 = 0",
+            "told 0 0 = 99", "set 0 0 100 ! BAD", "set 0 0 -1 ! BAD", "set 0 0 MAX ! BAD", "set 0 0 MIN ! BAD",
+            "told 0 0 = 99", "set 0 0 99 = 99");
         for (String of : new String[] {"-1", "5", "40", "MIN", "MAX"}) {
-            run.then("set 0 " + of + " 98 = 99", "told 0 0 = 98", "set 0 " + of + " 99 = 98", "set 0 " + of + " 100 ! BAD");
+            run.then("set 0 " + of + " 98 = 99", "told 0 0 = 98", "set 0 " + of + " 99 = 98",
+                "set 0 " + of + " 100 ! BAD");
         }
     }
 
@@ -72,8 +75,8 @@ public final class LandEdgesTest {
     }
 
     private static void setAnger() {
-        Run run = Run.lively("ANGER (0 .. 99) of a PAIR becomes v: what it was").then("set 3 0 99 = 48", "set 3 0 0 = 99",
-            "told 0 3 = 0", "set 3 2 99 = 15", "told 2 3 = 99", "told 1 3 = 35", "told 2 5 = 0");
+        Run run = Run.lively("ANGER (0 .. 99) of a PAIR becomes v: what it was").then("set 3 0 99 = 48",
+            "set 3 0 0 = 99", "told 0 3 = 0", "set 3 2 99 = 15", "told 2 3 = 99", "told 1 3 = 35", "told 2 5 = 0");
         for (String v : new String[] {"-1", "100", "MIN", "MAX"}) {
             run.then("set 3 0 " + v + " ! BAD", "set 3 2 " + v + " ! BAD");
         }
@@ -96,7 +99,8 @@ public final class LandEdgesTest {
             }
             for (int what = 2; what <= 3; what++) {
                 if (size > 0) {
-                    run.then("set " + what + " 0 3 = " + (what - 1), "set " + what + " " + (size - 1) + " 3 = " + (size == 1 ? 3 : what - 1));
+                    run.then("set " + what + " 0 3 = " + (what - 1),
+                        "set " + what + " " + (size - 1) + " 3 = " + (size == 1 ? 3 : what - 1));
                 }
                 run.then("set " + what + " " + size + " 3 ! BAD", "set " + what + " -1 3 ! BAD",
                     "set " + what + " MIN 3 ! BAD", "set " + what + " MAX 3 ! BAD");
@@ -123,7 +127,8 @@ public final class LandEdgesTest {
     }
 
     private static void pairAnger() {
-        Run run = Run.lively("ANGER 0 .. 99").then("pair 0 1 0 = 3", "told 3 3 = 0", "pair 0 1 99 = 4", "told 4 3 = 99");
+        Run run = Run.lively("ANGER 0 .. 99").then("pair 0 1 0 = 3", "told 3 3 = 0", "pair 0 1 99 = 4",
+            "told 4 3 = 99");
         run = Run.lively("ANGER 0 .. 99, else BAD").then("pair 0 1 100 ! BAD");
         for (String anger : FAR_OFF) {
             run.then("pair 0 1 " + anger + " ! BAD");
@@ -134,9 +139,11 @@ public final class LandEdgesTest {
     private static void pairFull() {
         Run run = new Run("PAIRS (5 at most, numbered from 0), TOLD (0)");
         for (int pair = 0; pair < 5; pair++) {
-            run.then("pair " + pair + " " + pair + " " + (90 + pair) + " = " + pair, "told " + pair + " 5 = 0", "count 0 = " + (pair + 1));
+            run.then("pair " + pair + " " + pair + " " + (90 + pair) + " = " + pair, "told " + pair + " 5 = 0",
+                "count 0 = " + (pair + 1));
         }
-        run.then("pair 0 0 0 ! FULL", "pair 5 9 99 ! FULL", "count 0 = 5", "told 5 4 = -1000", "told 4 4 = 4", "told 4 3 = 94");
+        run.then("pair 0 0 0 ! FULL", "pair 5 9 99 ! FULL", "count 0 = 5", "told 5 4 = -1000", "told 4 4 = 4",
+            "told 4 3 = 94");
     }
 
     private static void pairBadAheadOfFull() {
@@ -144,8 +151,8 @@ public final class LandEdgesTest {
         for (int pair = 0; pair < 5; pair++) {
             run.then("pair 0 0 0 = " + pair);
         }
-        run.then("pair 6 0 0 ! BAD", "pair -1 0 0 ! BAD", "pair 0 10 0 ! BAD", "pair 0 -1 0 ! BAD", "pair 0 0 100 ! BAD",
-            "pair 0 0 -1 ! BAD");
+        run.then("pair 6 0 0 ! BAD", "pair -1 0 0 ! BAD", "pair 0 10 0 ! BAD", "pair 0 -1 0 ! BAD",
+            "pair 0 0 100 ! BAD", "pair 0 0 -1 ! BAD");
     }
 
     private static void toldHourAndThing() {

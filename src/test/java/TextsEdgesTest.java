@@ -20,6 +20,8 @@ public final class TextsEdgesTest {
         bytesAheadAndBehind();
         longNumbers();
         wordsThatAreNone();
+        wordsByLetters();
+        wordsThatAreNoneBehindOthers();
         tokensAsLongAsCanBe();
         endsTooEarly();
         keysInTheirOrder();
@@ -38,7 +40,8 @@ public final class TextsEdgesTest {
     }
 
     private static void bytes() {
-        Run run = Run.lively("A byte (0 .. 255) comes behind THE TAPE: how many it has").then("feed 0 = 9", "feed 255 = 10", "count 4 = 10");
+        Run run = Run.lively("A byte (0 .. 255) comes behind THE TAPE: how many it has").then("feed 0 = 9",
+            "feed 255 = 10", "count 4 = 10");
         run.then("feed 256 ! BAD");
         for (String letter : FAR_OFF) {
             run.then("feed " + letter + " ! BAD");
@@ -47,13 +50,14 @@ public final class TextsEdgesTest {
     }
 
     private static void fullTape() {
-        Run run = new Run("THE TAPE (160 bytes at most); FULL").tape(padded(GOOD, 159)).then("count 4 = 159", "feed 32 = 160",
-            "feed 32 ! FULL", "feed 0 ! FULL", "feed 255 ! FULL", "count 4 = 160");
+        Run run = new Run("THE TAPE (160 bytes at most); FULL").tape(padded(GOOD, 159)).then("count 4 = 159",
+            "feed 32 = 160", "feed 32 ! FULL", "feed 0 ! FULL", "feed 255 ! FULL", "count 4 = 160");
         run.then("text = 1", "count 4 = 0", "feed 104 = 1");
     }
 
     private static void badAheadOfFull() {
-        new Run("BAD ahead of FULL").tape(padded(GOOD, 160)).then("feed 256 ! BAD", "feed -1 ! BAD", "feed MIN ! BAD", "feed MAX ! BAD");
+        new Run("BAD ahead of FULL").tape(padded(GOOD, 160)).then("feed 256 ! BAD", "feed -1 ! BAD", "feed MIN ! BAD",
+            "feed MAX ! BAD");
     }
 
     private static String padded(String text, int size) {
@@ -69,8 +73,8 @@ public final class TextsEdgesTest {
         fault("a NUMBER up to the end of 160 bytes", "heats " + "1".repeat(154), 6);
         fault("a WORD of 160 letters", "a".repeat(160), 0);
         fault("160 blanks", " ".repeat(160), 160);
-        new Run("a TEXT of 160 bytes tells all that it says").rule(longest)
-            .then("pair 0 0 0 = 0", "told 0 10 = 69", "told 0 6 = 2", "told 0 7 = 38");
+        new Run("a TEXT of 160 bytes tells all that it says").rule(longest).then("pair 0 0 0 = 0", "told 0 10 = 69",
+            "told 0 6 = 2", "told 0 7 = 38");
     }
 
     private static void emptyTape() {
@@ -79,8 +83,10 @@ public final class TextsEdgesTest {
 
     private static void tapeIsEmptyThen() {
         new Run("THE TAPE, which is empty then").tape(GOOD).then("text = 1", "count 4 = 0", "text = -100");
-        new Run("THE TAPE, which is empty then (behind a FAULT)").tape("heats ;").then("text = -106", "count 4 = 0", "text = -100");
-        new Run("nothing of it stands behind").tape("heats ?").then("text = -106").tape(GOOD).then("count 4 = 22", "text = 1");
+        new Run("THE TAPE, which is empty then (behind a FAULT)").tape("heats ;").then("text = -106", "count 4 = 0",
+            "text = -100");
+        new Run("nothing of it stands behind").tape("heats ?").then("text = -106").tape(GOOD).then("count 4 = 22",
+            "text = 1");
     }
 
     private static void sixTexts() {
@@ -91,7 +97,8 @@ public final class TextsEdgesTest {
         }
         run.tape(GOOD).then("text ! FULL", "count 3 = 6");
         for (int text = 1; text <= 5; text++) {
-            run.then("force " + text + " = " + (text - 1), "told 0 10 = " + text, "told 0 6 = " + (10 + text), "told 0 7 = " + (20 + text));
+            run.then("force " + text + " = " + (text - 1), "told 0 10 = " + text, "told 0 6 = " + (10 + text),
+                "told 0 7 = " + (20 + text));
         }
         run.then("force 0 = 5", "told 0 10 = 5", "told 0 15 = 20", "told 0 6 = 2", "told 0 7 = 0");
     }
@@ -105,23 +112,27 @@ public final class TextsEdgesTest {
     }
 
     private static void tapeStays() {
-        fullOfTexts("FULL: no TEXT more has room (THE TAPE stays)").tape(GOOD).then("text ! FULL", "count 4 = 22", "feed 32 = 23",
-            "text ! FULL", "count 4 = 23");
-        fullOfTexts("FULL, whatever stands on THE TAPE").then("text ! FULL").tape("?").then("text ! FULL", "count 4 = 1");
-        fullOfTexts("FULL with a full TAPE").tape(padded(GOOD, 160)).then("text ! FULL", "count 4 = 160", "feed 32 ! FULL");
+        fullOfTexts("FULL: no TEXT more has room (THE TAPE stays)").tape(GOOD).then("text ! FULL", "count 4 = 22",
+            "feed 32 = 23", "text ! FULL", "count 4 = 23");
+        fullOfTexts("FULL, whatever stands on THE TAPE").then("text ! FULL").tape("?").then("text ! FULL",
+            "count 4 = 1");
+        fullOfTexts("FULL with a full TAPE").tape(padded(GOOD, 160)).then("text ! FULL", "count 4 = 160",
+            "feed 32 ! FULL");
     }
 
     private static void faultyTextIsNone() {
-        Run run = new Run("a FAULT makes no TEXT").rule("7", "8", "9").then("pair 0 0 0 = 0").tape("heats 1;cools 2;far 3").then("text = -121",
-            "count 3 = 2", "count 5 = 1", "force 2 ! BAD", "told 0 10 = 7", "told 0 6 = 8", "told 0 7 = 9");
-        run.tape(GOOD).then("text = 2", "told 0 10 = 7", "told 0 7 = 9", "force 2 = 1", "told 0 10 = 1", "told 0 6 = 2", "told 0 7 = 3");
+        Run run = new Run("a FAULT makes no TEXT").rule("7", "8", "9").then("pair 0 0 0 = 0")
+            .tape("heats 1;cools 2;far 3").then("text = -121", "count 3 = 2", "count 5 = 1", "force 2 ! BAD",
+            "told 0 10 = 7", "told 0 6 = 8", "told 0 7 = 9");
+        run.tape(GOOD).then("text = 2", "told 0 10 = 7", "told 0 7 = 9", "force 2 = 1", "told 0 10 = 1", "told 0 6 = 2",
+            "told 0 7 = 3");
         run.tape("heats 99;cools 99;far 39;;").then("text = -125", "told 0 10 = 1", "told 0 6 = 2", "told 0 7 = 3");
     }
 
     /** Where the FAULT of a text is; NONE: it is one. */
     private static void fault(String sentence, String text, int place) {
-        new Run(sentence + " <" + text + ">").tape(text).then("text = " + (place == NONE ? 1 : -100 - place), "count 4 = 0",
-            "count 3 = " + (place == NONE ? 2 : 1));
+        new Run(sentence + " <" + text + ">").tape(text).then("text = " + (place == NONE ? 1 : -100 - place),
+            "count 4 = 0", "count 3 = " + (place == NONE ? 2 : 1));
     }
 
     private static boolean isBlank(int letter) {
@@ -168,8 +179,8 @@ public final class TextsEdgesTest {
         fault(sentence, "heats 1 23456" + REST, 8);
         fault(sentence, "heats 1;cools 2;far 99999;", 20);
         fault(sentence, "12345", 0);
-        new Run("a NUMBER of 4 digits").rule("9999=10*999+9", "0007", "9999-9998").then("pair 0 0 0 = 0", "told 0 10 = 1",
-            "told 0 6 = 7", "told 0 7 = 1");
+        new Run("a NUMBER of 4 digits").rule("9999=10*999+9", "0007", "9999-9998").then("pair 0 0 0 = 0",
+            "told 0 10 = 1", "told 0 6 = 7", "told 0 7 = 1");
     }
 
     private static void wordsThatAreNone() {
@@ -188,9 +199,48 @@ public final class TextsEdgesTest {
             fault("a KEY where a ONE is due", "heats " + key + " 1" + REST, 6);
             fault("a KEY where a ONE is due", "heats (" + key + " 1)" + REST, 7);
         }
-        for (String key : new String[] {"o", "orr", "an", "andd", "no", "nott", "h", "heat", "heatss", "cool", "fa", "farr"}) {
+        for (String key : new String[] {"o", "orr", "an", "andd", "no", "nott", "h", "heat", "heatss", "cool", "fa",
+            "farr"}) {
             fault("a WORD that is neither KEY nor NAME", "heats 1 " + key + " 1" + REST, 8);
             fault("a WORD that is neither KEY nor NAME", key + " 1" + REST, 0);
+        }
+    }
+
+    /** Each letter of each WORD counts, the first and the last among them. */
+    private static void wordsByLetters() {
+        String sentence = "a WORD that is neither KEY nor NAME";
+        for (String name : new String[] {"word", "anger", "number", "hour", "things", "bench"}) {
+            for (int i = 0; i < name.length(); i++) {
+                fault(sentence, "heats " + name.substring(0, i) + "z" + name.substring(i + 1) + REST, 6);
+            }
+        }
+        for (String key : new String[] {"or", "and"}) {
+            for (int i = 0; i < key.length(); i++) {
+                fault(sentence, "heats 1 " + key.substring(0, i) + "z" + key.substring(i + 1) + " 1" + REST, 8);
+            }
+        }
+        for (int i = 0; i < 3; i++) {
+            fault(sentence, "heats " + "not".substring(0, i) + "z" + "not".substring(i + 1) + " 1" + REST, 6);
+        }
+        for (int start : new int[] {0, 8, 16}) {
+            for (int i = start; GOOD.charAt(i) != ' '; i++) {
+                fault(sentence, GOOD.substring(0, i) + "z" + GOOD.substring(i + 1), start);
+            }
+        }
+    }
+
+    /** What is none isn't taken for the token that stood ahead of it. */
+    private static void wordsThatAreNoneBehindOthers() {
+        for (String none : new String[] {"foo", "12345", "?"}) {
+            fault("behind a (", "heats (" + none + " 5)" + REST, 7);
+            fault("behind a -", "heats -" + none + " 5" + REST, 7);
+            fault("behind a not", "heats not " + none + " 5" + REST, 10);
+            fault("behind a +", "heats 1+" + none + " 5" + REST, 8);
+            fault("behind a ;", "heats 1;" + none + "cools 2;far 3;", 8);
+            fault("behind an or", "heats 1 or " + none + REST, 11);
+            fault("behind a NUMBER", "heats 1 " + none + REST, 8);
+            fault("behind a NAME", "heats word " + none + REST, 11);
+            fault("behind all", GOOD + none, 22);
         }
     }
 
@@ -213,8 +263,8 @@ public final class TextsEdgesTest {
 
     /** A text cut behind each of its tokens, with blanks behind it or none: all of it ends too early. */
     private static void endsTooEarly() {
-        String[] tokens = {"heats", "not", "word", "+", "5", "<", "-", "anger", "or", "(", "1", "and", "2", ")", "*", "3", ";",
-            "cools", "2", ";", "far", "(", "9", "-", "7", ")", ";"};
+        String[] tokens = {"heats", "not", "word", "+", "5", "<", "-", "anger", "or", "(", "1", "and", "2", ")", "*",
+            "3", ";", "cools", "2", ";", "far", "(", "9", "-", "7", ")", ";"};
         StringBuilder text = new StringBuilder();
         for (int i = 0; i < tokens.length; i++) {
             text.append(i == 0 ? "" : " ").append(tokens[i]);
@@ -395,34 +445,40 @@ public final class TextsEdgesTest {
         worth(sentence, "0-" + LEAST + "<0", 1);
     }
 
+    /** Set in a SUM, so that what is neither 1 nor 0 can't hide behind a bound. */
+    private static void truth(String sentence, String e, int due) {
+        worth(sentence, e, due);
+        worth(sentence, "7+(" + e + ")", 7 + due);
+    }
+
     private static void trueAndFalse() {
         String sentence = "of or, and, not, <, = 1 or 0 (what is not 0 is true)";
-        worth(sentence, "9 or 0", 1);
-        worth(sentence, "0 or 9", 1);
-        worth(sentence, "9 or 9", 1);
-        worth(sentence, "0 or 0", 0);
-        worth(sentence, "-9 or 0", 1);
-        worth(sentence, "9 and 9", 1);
-        worth(sentence, "1 and 2", 1);
-        worth(sentence, "9 and 0", 0);
-        worth(sentence, "0 and 9", 0);
-        worth(sentence, "0 and 0", 0);
-        worth(sentence, "-1 and -2", 1);
-        worth(sentence, "not 0", 1);
-        worth(sentence, "not 9", 0);
-        worth(sentence, "not -1", 0);
-        worth(sentence, "not not 9", 1);
-        worth(sentence, "not " + LEAST, 0);
-        worth(sentence, "not 4096*4096*256", 1);
-        worth(sentence, LEAST + " and " + LEAST, 1);
-        worth(sentence, "29<anger", 1);
-        worth(sentence, "30<anger", 0);
-        worth(sentence, "31<anger", 0);
-        worth(sentence, "29=anger", 0);
-        worth(sentence, "30=anger", 1);
-        worth(sentence, "31=anger", 0);
-        worth(sentence, "0<-1", 0);
-        worth(sentence, "-1<0", 1);
+        truth(sentence, "9 or 0", 1);
+        truth(sentence, "0 or 9", 1);
+        truth(sentence, "9 or 9", 1);
+        truth(sentence, "0 or 0", 0);
+        truth(sentence, "-9 or 0", 1);
+        truth(sentence, "9 and 9", 1);
+        truth(sentence, "1 and 2", 1);
+        truth(sentence, "9 and 0", 0);
+        truth(sentence, "0 and 9", 0);
+        truth(sentence, "0 and 0", 0);
+        truth(sentence, "-1 and -2", 1);
+        truth(sentence, "not 0", 1);
+        truth(sentence, "not 9", 0);
+        truth(sentence, "not -1", 0);
+        truth(sentence, "not not 9", 1);
+        truth(sentence, "not " + LEAST, 0);
+        truth(sentence, "not 4096*4096*256", 1);
+        truth(sentence, LEAST + " and " + LEAST, 1);
+        truth(sentence, "29<anger", 1);
+        truth(sentence, "30<anger", 0);
+        truth(sentence, "31<anger", 0);
+        truth(sentence, "29=anger", 0);
+        truth(sentence, "30=anger", 1);
+        truth(sentence, "31=anger", 0);
+        truth(sentence, "0<-1", 0);
+        truth(sentence, "-1<0", 1);
     }
 
     private static void order() {
@@ -455,13 +511,15 @@ public final class TextsEdgesTest {
     }
 
     private static void forceTexts() {
-        Run run = Run.lively("A TEXT is THE RULE: which was").then("force 0 = 1", "count 5 = 0", "force 0 = 0", "force 1 = 0", "force 2 ! BAD");
+        Run run = Run.lively("A TEXT is THE RULE: which was").then("force 0 = 1", "count 5 = 0", "force 0 = 0",
+            "force 1 = 0", "force 2 ! BAD");
         for (String text : FAR_OFF) {
             run.then("force " + text + " ! BAD");
         }
         run.then("count 5 = 1", "force 6 ! BAD");
         new Run("of one TEXT", "force 1 ! BAD", "force -1 ! BAD", "force 0 = 0");
-        fullOfTexts("of six TEXTS").then("force 5 = 0", "force 6 ! BAD", "force MAX ! BAD", "force MIN ! BAD", "count 5 = 5", "force 0 = 5");
+        fullOfTexts("of six TEXTS").then("force 5 = 0", "force 6 ! BAD", "force MAX ! BAD", "force MIN ! BAD",
+            "count 5 = 5", "force 0 = 5");
         fullOfTexts("force() leaves THE TAPE").tape("heats").then("force 5 = 0", "count 4 = 5", "count 3 = 6");
     }
 }
