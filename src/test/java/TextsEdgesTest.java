@@ -12,6 +12,7 @@ public final class TextsEdgesTest {
         longestText();
         emptyTape();
         tapeIsEmptyThen();
+        nothingOfAFaultyText();
         sixTexts();
         tapeStays();
         faultyTextIsNone();
@@ -87,6 +88,22 @@ public final class TextsEdgesTest {
             "text = -100");
         new Run("nothing of it stands behind").tape("heats ?").then("text = -106").tape(GOOD).then("count 4 = 22",
             "text = 1");
+    }
+
+    /** Bytes and steps of a text that was none lie in the next one's way nowhere. */
+    private static void nothingOfAFaultyText() {
+        String[] letters = {"9", "a", " ", "-", ";", "?"};
+        int[] places = {5, 0, 105, 10, 5, 5};
+        for (int i = 0; i < letters.length; i++) {
+            new Run("of <" + letters[i] + "> nothing is left").tape("heats" + letters[i].repeat(100))
+                .then("text = " + (-100 - places[i])).tape("heats").then("text = -105").tape("heats 1")
+                .then("text = -107").tape("heats 1234").then("text = -110").tape("heats word").then("text = -110")
+                .tape(GOOD).then("text = 1");
+        }
+        new Run("of its steps nothing is left", "pair 0 0 0 = 0").tape("heats 1;cools --2;far").then("text = -121")
+            .rule("1", "2", "9").then("told 0 10 = 1", "told 0 6 = 2", "told 0 7 = 9")
+            .tape("heats not 1;cools not not 2;far").then("text = -131").rule("3", "4", "5").then("told 0 10 = 3",
+            "told 0 6 = 4", "told 0 7 = 5");
     }
 
     private static void sixTexts() {

@@ -131,8 +131,10 @@ public final class WordsEdgesTest {
             "words 1 1 = 1", "words 1 2 = 7", "words 1 3 = 7", "words 0 2 = 0", "words 1 2 = 7", "words 1 0 = NONE",
             "fewest 0 40 0 = 2", "fewest 1 40 0 = NONE", "fewest 1 40 1 = NONE", "rows 0 40 20 0 = 1",
             "rows 1 40 20 0 = 0", "rows 1 12 20 0 = 1", "clear 1 = 0", "words 1 1 = 1");
-        new Run("REACHED of each PAIR, the most", "pair 0 0 50 = 0", "pair 5 3 7 = 1", "words 0 3 = 99", "words 1 3 = 7",
-            "words 0 2 = 50", "words 1 2 = 7");
+        new Run("REACHED of each PAIR, the most", "pair 0 0 50 = 0", "pair 5 3 7 = 1", "words 0 3 = 99",
+            "words 1 3 = 7", "words 0 2 = 50", "words 1 2 = 7");
+        new Run("ROWS of each PAIR", "pair 0 0 0 = 0", "pair 5 3 5 = 1", "rows 0 0 20 0 = 1", "rows 1 12 20 0 = 1",
+            "rows 1 12 20 1 = 1", "rows 1 13 20 0 = 0");
     }
 
     private static void bestWord() {
