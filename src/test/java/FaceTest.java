@@ -1,16 +1,11 @@
-import java.io.IOException;
 import java.lang.reflect.Field;
 import java.lang.reflect.Method;
 import java.lang.reflect.Modifier;
-import java.nio.file.Files;
-import java.nio.file.Path;
 import java.util.Arrays;
 import java.util.Set;
 import java.util.TreeSet;
-import java.util.regex.Matcher;
-import java.util.regex.Pattern;
 
-/** The public face, and those rules of LANGUAGE.md that can be read from the source or from the class. */
+/** The public face, and that nothing else can be seen from outside; LanguageTest has the other rules. */
 public final class FaceTest {
     private static final Class<?> FACE = NoViewWithoutQuarrel.class;
     private static final String METHODS = "int set(int,int,int) int pair(int,int,int) int told(int,int) int feed(int) int text() "
@@ -20,10 +15,9 @@ public final class FaceTest {
         + "int count(int) int sheet(int,int,int) int cell(int,int,int) int copy(int,int,int,int,int) "
         + "int pairs(int,int,int,int) int taken(int,int)";
 
-    public static void main(String[] args) throws IOException {
+    public static void main(String[] args) {
         face();
         insideClasses();
-        source(Files.readString(Path.of("src/main/java/NoViewWithoutQuarrel.java")));
         Check.end();
     }
 
@@ -78,36 +72,6 @@ public final class FaceTest {
                 for (Method p : FACE.getDeclaredMethods()) {
                     Check.holds(m + " bears no public name", !Modifier.isPublic(p.getModifiers()) || !p.getName().equals(m.getName()));
                 }
-            }
-        }
-    }
-
-    private static void source(String text) {
-        String code = text.replaceAll("(?s)/\\*.*?\\*/", "").replaceAll("//[^\n]*", "").replaceAll("\"[^\"\n]*\"|'[^'\n]*'", "0");
-        for (String word : new String[] {"throw", "throws", "try", "catch", "finally", "synchronized", "assert", "package", "protected",
-            "volatile", "transient", "native", "Object", "hashCode", "toString", "Thread", "Random", "System\\.(?!arraycopy)",
-            "float", "double", "var", "Exact"}) {
-            Check.holds("no " + word, !Pattern.compile("\\b" + word + (word.endsWith(")") ? "" : "\\b")).matcher(code).find());
-        }
-        Check.holds("no lambda, no method reference", !code.contains("->") && !code.contains("::"));
-        Matcher imports = Pattern.compile("import ([^;]*);").matcher(code);
-        while (imports.find()) {
-            Check.holds("import " + imports.group(1), imports.group(1).equals("java.util.Arrays"));
-        }
-        Check.holds("no sign above 127", text.chars().allMatch(c -> c < 128));
-        Check.holds("new in fields alone", !Pattern.compile("(?m)^ {12,}.*\\bnew\\b").matcher(code).find());
-        shortMethods(code);
-    }
-
-    private static void shortMethods(String code) {
-        String[] lines = code.split("\n");
-        int start = 0;
-        for (int i = 0; i < lines.length; i++) {
-            if (lines[i].matches("( {4}| {8})[a-z].*\\(.*\\) \\{")) {
-                start = i;
-            }
-            if (lines[i].matches(" {4}\\}| {8}\\}")) {
-                Check.holds("a short method: " + lines[start], i - start <= 60 || lines[start].contains("class"));
             }
         }
     }
