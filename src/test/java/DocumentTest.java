@@ -247,6 +247,10 @@ public final class DocumentTest {
         fault("heats 12 34" + REST, 9);
         isText("heats1or 2and 3" + REST);
         doc.says("WORDS (a .. z),").tape("heats Word" + REST).then("text = -106");
+        fault("heats wordz" + REST, 6);
+        fault("heats aword" + REST, 6);
+        fault("heats word`" + REST, 10);
+        fault("heats word{" + REST, 10);
         doc.says("NUMBERS (digits, 4 at most),").rule("9999=9*1111", "0042", "7").then("pair 0 0 50 = 0", "told 0 10 = 1",
             "told 0 6 = 42");
         fault("heats 00001" + REST, 6);
@@ -310,6 +314,13 @@ public final class DocumentTest {
         worth("4096*4096*128<0", 1);
         worth("5+(7 or 0)", 6);
         worth("5+(7 and -2)", 6);
+        worth("5+(0 or -1)", 6);
+        worth("5+(0 or 1)", 6);
+        worth("5+(-1 or 0)", 6);
+        worth("5+(0 or 0)", 5);
+        worth("5+(-1 and 1)", 6);
+        worth("5+(0 and 1)", 5);
+        worth("5+(1 and 0)", 5);
         worth("5+(not -2)", 5);
         worth("5+(not 0)", 6);
         worth("5+(29<anger)+(30=anger)", 7);
@@ -352,7 +363,8 @@ public final class DocumentTest {
         six.then("count 3 = 6").tape(GOOD).then("text ! FULL", "force 5 = 0", "force 6 ! BAD");
         doc.says("Of a PAIR: word: the WORD (of cools, far 0); anger: ANGER; number: NUMBER; hour: HOUR;")
             .rule("word", "word*9+number", "word*9+hour").then("pair 0 4 30 = 0", "set 0 0 7 = 0", "told 0 13 = 3",
-            "told 0 6 = 4", "told 0 7 = 7", "say 0 5 = 35", "told 0 6 = 4", "told 0 7 = 7").rule("anger", "anger", "anger")
+            "told 0 6 = 4", "told 0 7 = 7", "say 0 5 = 35", "told 0 6 = 4", "told 0 15 = 5", "told 0 7 = 7", "told 0 15 = 5", "told 0 6 = 4")
+            .rule("anger", "anger", "anger")
             .then("told 0 10 = 35", "told 0 6 = 35", "told 0 7 = 35");
         doc.says("things: how many MILES have a THING; bench: how many PAIRS there are.")
             .rule("things", "bench", "things*10+bench").then("set 1 0 7 = 0", "set 1 39 7 = 0", "set 1 9 1 = 0",
@@ -416,7 +428,8 @@ public final class DocumentTest {
             "words 0 1 = 20", "pair 5 0 50 = 1", "words 1 1 = 1", "words 1 2 = 50", "words 1 3 = 50");
         doc.says("BEST WORD: that by which FAR would be most at once; of like ones the first.", "pair 0 0 10 = 0",
             "words 0 4 = 5", "words 0 5 = 30", "set 3 0 26 = 10", "words 0 4 = 3", "words 0 5 = 40", "pair 1 1 10 = 1",
-            "words 1 4 = 5", "words 1 5 = 30", "set 2 1 4 = 1", "words 1 4 = 4", "words 1 5 = 40");
+            "words 1 4 = 5", "words 1 5 = 30", "set 2 1 4 = 1", "words 1 4 = 4", "words 1 5 = 40", "set 3 0 34 = 26",
+            "words 0 4 = 1", "set 3 0 35 = 34", "words 0 4 = 0");
     }
 
     private void rows() {
@@ -445,7 +458,9 @@ public final class DocumentTest {
             "cell 0 1 15 = 1", "tells 0 0 2 = 1", "cell 0 0 21 = 1", "tells 0 0 2 = 0");
         doc.says("ANGERS (of 0 .. 99: how many, the least),", "pair 0 0 0 = 0").sheet(0, 0, 40, 40).then("tells 0 0 3 = 58",
             "tells 0 0 4 = 42", "cell 0 1 39 = 1", "tells 0 0 3 = 1", "tells 0 0 4 = 41", "cell 0 1 37 = 1",
-            "tells 0 0 3 = 0", "tells 0 0 4 = NONE");
+            "tells 0 0 3 = 0", "tells 0 0 4 = NONE", "cell 0 0 0 = 1", "cell 0 1 0 = 1", "tells 0 0 3 = 1", "tells 0 0 4 = 0");
+        doc.also().rule("0", "0", "anger-98").then("pair 0 0 0 = 0").sheet(0, 0, 1).then("tells 0 0 3 = 1",
+            "tells 0 0 4 = 99", "cell 0 0 2 = 1", "tells 0 0 3 = 0", "tells 0 0 4 = NONE");
         doc.says("TEXTS (bits), were they THE RULE, by which all would be so;", "pair 0 0 9 = 0").rule("0", "3", "anger")
             .sheet(0, 0, 9, 7).then("tells 0 0 5 = 1", "cell 0 1 6 = 1", "tells 0 0 5 = 2", "cell 0 1 5 = 1",
             "tells 0 0 5 = 0").sheet(0, 0, 9).then("tells 0 0 5 = 3");
@@ -462,10 +477,10 @@ public final class DocumentTest {
         doc.says("DRAWN by a SEED: n WORDS (0 .. 99), each (z >>> 9) % 6, z being z * 1103515245 + 12345 (an int; SEED at "
             + "first) anew for each: FAR at last.").rule("word-anger", "0", "anger").then("pair 0 0 33 = 0",
             "drawn 0 0 0 = 33", "drawn 0 0 1 = 0", "drawn 0 0 2 = 3", "drawn 1 0 1 = 1", "drawn -1 0 1 = 0",
-            "drawn 0 0 100 ! BAD", "drawn 0 0 -1 ! BAD", "told 0 3 = 33");
+            "drawn 0 0 99 = 0", "drawn 0 0 100 ! BAD", "drawn 0 0 -1 ! BAD", "told 0 3 = 33");
         Run seeds = doc.says("IN m seeds (1 .. 20), SEED and each 1 more (an int), 8 WORDS: of these those by which that is k "
             + "(0 .. 40) or more.").rule("word-anger", "0", "anger").then("pair 0 0 33 = 0", "chance 0 0 0 0 0 ! NO",
-            "chance 0 21 0 0 0 ! NO");
+            "chance 0 21 0 0 0 ! NO", "chance 0 1 0 0 0 = 1", "chance 0 1 0 6 0 = 0", "chance 0 1 0 40 1 = 1");
         for (int k = 0; k <= 6; k++) {
             int above = 0;
             for (int i = 0; i < 20; i++) {
@@ -493,6 +508,8 @@ public final class DocumentTest {
             "pair 0 0 0 = 1", "feed 32 = 1", "back = 1", "told 3 1 = 3", "told 4 1 = 0", "told 0 0 = 9", "told 0 2 = 2",
             "told 0 3 = 8", "told 0 5 = 1", "count 5 = 0", "count 0 = 1", "told 0 4 = 1", "count 3 = 2", "count 4 = 1",
             "cell 2 0 1 = 1");
+        doc.also("image = 0", "pair 1 2 3 = 0", "say 0 0 = 8", "back = 0", "count 0 = 0", "count 2 = 0", "pair 2 4 30 = 0",
+            "told 0 4 = 2", "told 0 5 = 0", "count 2 = 0");
         doc.says("Many MILES are told as a long: bit m for MILE m.", "pair 0 0 40 = 0", "set 1 0 1 = 0", "clear 2 = 1",
             "set 1 39 1 = 0", "clear 2 = " + (1 + (1L << 39)), "clear 0 = ALL", "set 1 0 0 = 1", "clear 2 = 549755813888");
         doc.read("```");
@@ -592,6 +609,8 @@ public final class DocumentTest {
             "view 4 = NONE", "pair 5 1 0 = 0", "pair 0 0 11 = 1", "pair 1 0 11 = 2", "view 0 = 11", "view 1 = 2",
             "view 2 = 5", "view 3 = 1", "view 4 = 1", "set 3 2 12 = 11", "view 0 = 12", "view 1 = 3", "view 2 = 6",
             "view 3 = 2", "view 4 = 0");
+        doc.also("set 1 0 7 = 0", "pair 0 0 0 = 0", "view 1 = 0", "view 2 = 0", "view 4 = 1", "say 0 0 = 5", "view 1 = 1",
+            "view 2 = 7", "view 4 = 0");
         doc.says("BAD.", "view 5 ! BAD", "view -1 ! BAD");
         doc.read("## Promise 11: clear `long clear(int what)`:");
         doc.says("CLEAR MILES (what 0), BLIND (1), CLEAR ones with a THING (2).", "set 1 2 1 = 0", "set 1 9 1 = 0",
@@ -674,7 +693,7 @@ public final class DocumentTest {
         doc.says("A SHEET becomes a row of n of a sort, all 0, or missing (sort -1: n does not matter): 1.", "pair 0 0 0 = 0")
             .sheet(0, 1, 5, 5).then("sheet 0 1 3 = 1", "tells 0 0 0 = NONE", "cell 0 2 1 = 1", "cell 0 3 1 = -12",
             "sheet 0 -1 MIN = 1", "cell 0 0 0 = -11", "sheet 0 2 40 = 1", "cell 0 39 0 = 1", "sheet 0 -1 41 = 1",
-            "cell 0 0 0 = -11");
+            "cell 0 0 0 = -11", "sheet 0 0 0 = 1", "cell 0 0 0 = -12");
         doc.says("BAD: no such SHEET, sort; n above 40; -14.", "sheet 4 0 1 ! BAD", "sheet -1 0 1 ! BAD", "sheet 0 3 1 ! BAD",
             "sheet 0 -2 1 ! BAD", "sheet 0 0 41 ! BAD", "sheet 0 0 -1 ! -14", "sheet 0 3 -1 ! BAD");
         doc.read("## Promise 25: cell `int cell(int sheet, int i, int v)`:");
@@ -697,6 +716,7 @@ public final class DocumentTest {
             + "5): how many came (others are left out).").sheet(0, 2, 9, 1, 2, 3, 6, 0, 0, 5, 4, 99).then(
             "pairs 0 2 1 3 = 2", "count 0 = 2", "told 0 4 = 1", "told 0 2 = 2", "told 0 3 = 3", "told 1 4 = 5",
             "told 1 2 = 4", "told 1 3 = 99", "pairs 0 2 0 0 = 0", "pairs 0 2 1 3 = 2", "pairs 0 2 1 3 = 1", "count 0 = 5");
+        doc.also("sheet 0 1 15 = 1", "pairs 0 1 0 5 = 5", "count 0 = 5");
         doc.says("BAD: no such SHEET, sort, n; -13; -11; -12: what stood ahead came.").sheet(0, 2, 0, 1, 2, 3, 4)
             .then("pairs 4 2 0 1 ! BAD", "pairs 0 3 0 1 ! BAD", "pairs 0 -1 0 1 ! BAD", "pairs 0 2 0 6 ! BAD",
             "pairs 0 2 0 -1 ! BAD", "pairs 0 1 0 1 ! -13", "pairs 1 1 0 1 ! -11", "pairs 0 2 3 1 ! -12",

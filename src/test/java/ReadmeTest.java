@@ -4,8 +4,8 @@ import java.nio.file.Files;
 import java.nio.file.Path;
 import java.util.ArrayList;
 import java.util.List;
-import java.util.TreeSet;
 import java.util.Set;
+import java.util.TreeSet;
 import java.util.concurrent.TimeUnit;
 import java.util.regex.Matcher;
 import java.util.regex.Pattern;
@@ -57,14 +57,13 @@ public final class ReadmeTest {
             Matcher m = ANSWERED.matcher(line);
             boolean answered = m.matches();
             Check.holds("an answer behind <" + line.trim() + ">", answered || !line.startsWith("hill."));
-            program.append(line).append('\n');
             if (answered) {
                 shown.add(m.group(3));
-                // What is called to be shown is called once: its answer is taken down in its own line.
-                program.setLength(program.length() - line.length() - 1);
-                program.append(m.group(1) == null ? "" : m.group(1) + "(int) ").append("due(\"").append(m.group(2)
-                    .replace("\"", "\\\"")).append("\", ").append(m.group(2)).append(", ").append(m.group(4))
-                    .append(");\n");
+                program.append(m.group(1) == null ? "" : m.group(1) + "(int) ").append("due(\"")
+                    .append(m.group(2).replace("\"", "\\\"")).append("\", ").append(m.group(2)).append(", ")
+                    .append(m.group(4)).append(");\n");
+            } else {
+                program.append(line).append('\n');
             }
         }
         program.append("end();\n}\n}\n");
