@@ -14,7 +14,8 @@ import java.util.List;
 
 /**
  * The document from its first line to its last: each sentence is quoted, in its place, with a run that would show
- * it broken; Document sees to it that none is passed over. The answers that are due were worked out by hand.
+ * it broken; Document sees to it that none is passed over. The answers that are due were worked out by hand, but for
+ * those of many drawn words, which were reckoned apart from the class.
  */
 public final class DocumentTest {
     private static final String REST = ";cools 2;far 3;", GOOD = "heats 1" + REST;
